@@ -1,0 +1,43 @@
+/** Counts answers that are not as due, tells them, and ends a test by them. */
+final class Due {
+    private final String test;
+    private int asked = 0;
+    private int wrong = 0;
+
+    Due(String test) {
+        this.test = test;
+    }
+
+    void is(String call, int got, int want) {
+        asked++;
+        if (got != want) {
+            tell(call + " answered " + got + ", due is " + want);
+        }
+    }
+
+    void holds(String what, boolean is) {
+        asked++;
+        if (!is) {
+            tell(what + " does not hold");
+        }
+    }
+
+    void same(String what, String got, String want) {
+        asked++;
+        if (!got.equals(want)) {
+            tell(what + ": " + got + ", due is " + want);
+        }
+    }
+
+    void end() {
+        System.out.println(test + ": " + asked + " answers, " + wrong + " not as due");
+        if (wrong != 0) {
+            System.exit(1);
+        }
+    }
+
+    private void tell(String line) {
+        wrong++;
+        System.out.println(test + ": " + line);
+    }
+}
