@@ -57,6 +57,10 @@ public final class RanksTest {
         KnobBench y = read(new int[] {5, 6}, new int[] {6, 5});
         oddsAre(y, 0, 1, 5, 6);
         oddsAre(y, 1, 0, 5, 6);
+        // Ranks of 1, 2, 2, 3 are 0, 3, 3, 6; y's sum is 6: as much as 0 and 6, less than 3 and 6.
+        KnobBench middle = read(new int[] {1, 3}, new int[] {2, 2});
+        oddsAre(middle, 0, 1, 4, 6);
+        oddsAre(middle, 1, 0, 4, 6);
     }
 
     private static void ends() {

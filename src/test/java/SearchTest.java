@@ -16,6 +16,8 @@ public final class SearchTest {
         searchWithNoise();
         searchRefusals();
         searchPicksTheLeastNumber();
+        greatestFloorOfTheAllowedAlone();
+        theGreatestBench();
         DUE.end();
     }
 
@@ -242,5 +244,57 @@ public final class SearchTest {
         DUE.is("none is allowed, and BAD", y.search(31), KnobBench.BAD);
         DUE.is("no trial", y.count(3), 0);
         DUE.is("one setting alone is left at once", new KnobBench().search(30), 0);
+    }
+
+    private static void greatestFloorOfTheAllowedAlone() {
+        KnobBench x = new KnobBench();
+        x.knob(2);
+        x.knob(2);
+        x.steep(0, 1);
+        x.effect(0, 1, 1, 1, 50);
+        x.trial(0);
+        x.trial(3);
+        // 3 read 50, so 0 (which read 0) and 2 have floors of 49: none can be.
+        DUE.is("all", x.left(0), 0);
+        x.forget();
+        x.steep(0, 100);
+        x.trial(0);
+        x.trial(3);
+        DUE.is("floors 0, 50, 0, 50; roofs 0, 50, 0, 50", x.left(0), 2);
+        x.rule(false, 0, 1, 1, 1);
+        x.rule(false, 0, 1, 1, 0);
+        DUE.is("of 0 and 2 both", x.left(0), 2);
+        DUE.is("next of them", x.left(1), 0);
+    }
+
+    private static void theGreatestBench() {
+        KnobBench x = new KnobBench();
+        for (int values : new int[] {3, 2, 2, 3, 2, 2}) {
+            int k = x.knob(values);
+            x.steep(k, 10);
+            x.effect(k, 1, -1, 0, 10);
+        }
+        DUE.is("144 are left", x.left(0), 144);
+        DUE.is("it is smooth", x.left(2), 1);
+        DUE.is("the best", x.best(1), 1 + 3 + 6 + 12 + 36 + 72);
+        DUE.is("two turns", x.search(2), 2);
+        // 0 read 0; 143 (with 2, 1, 1, 2, 1, 1) is 80 off from it, the farthest, and reads 40.
+        DUE.is("first", x.read(0, 1), 0);
+        DUE.is("then the farthest", x.read(1, 1), 143);
+        DUE.is("as it reads", x.read(1, 0), 40);
+        // Roofs are the lower of OFF from 0 and 120 less that: 60 at the most; 2, 1, 1, 2, 0, 0 has it first.
+        DUE.is("next", x.left(1), 35);
+        DUE.is("its floor", x.bound(35, 0), 20);
+        DUE.is("its roof", x.bound(35, 1), 60);
+        for (int i = 3; i <= 60; i++) {
+            DUE.is("trial", x.trial(143), i);
+        }
+        DUE.is("two were tried", x.count(4), 2);
+        DUE.is("next as before", x.left(1), 35);
+        DUE.is("no more turns", x.search(30), 0);
+        DUE.is("no pair", x.pairs(5, 0, 1, 0), 0);
+        DUE.is("odds", x.odds(0, 143, 0), 1);
+        DUE.is("of one and eight", x.odds(0, 143, 1), 9);
+        DUE.is("back: 2 of a knob of three is worth what 0 is", x.back(143, 0), 3 + 6 + 36 + 72);
     }
 }
