@@ -95,8 +95,21 @@ public final class FaceTest {
             DUE.holds(c + " is static", Modifier.isStatic(m));
             DUE.holds(c + " is not public or protected", !Modifier.isPublic(m) && !Modifier.isProtected(m));
             fewFields(c);
+            namesAndParameters(c);
         }
         fewFields(KnobBench.class);
+        namesAndParameters(KnobBench.class);
+    }
+
+    private static void namesAndParameters(Class<?> c) {
+        for (Method m : c.getDeclaredMethods()) {
+            DUE.holds(c + ": " + m.getName() + " takes seven parameters at most", m.getParameterCount() <= 7);
+            boolean isOfTheFace = c == KnobBench.class && Modifier.isPublic(m.getModifiers());
+            for (String s : FACE) {
+                boolean isAlike = s.startsWith(m.getName() + "(");
+                DUE.holds(c + ": " + m.getName() + " is not named as one of the face", isOfTheFace || !isAlike);
+            }
+        }
     }
 
     private static void fewFields(Class<?> c) {
@@ -123,9 +136,21 @@ public final class FaceTest {
                 DUE.same("an import", code, "import java.util.Arrays;");
             }
         }
+        newInConstructorsAlone(lines);
         DUE.holds("methods stay short: " + longest(lines), longest(lines) <= 60);
         DUE.holds("texts are plain", lines.stream().allMatch(l -> l.chars().allMatch(ch -> ch < 128)));
         DUE.holds("there is a source", lines.size() > 100);
+    }
+
+    /** All calls of a run live in one room: what is made is made with the object, no call makes more. */
+    private static void newInConstructorsAlone(List<String> lines) {
+        boolean isConstructor = false;
+        for (String line : lines) {
+            if (line.matches("( {4}| {8})\\w.*\\) \\{")) {
+                isConstructor = line.trim().matches("(public )?[A-Z]\\w*\\(\\) \\{");
+            }
+            DUE.holds("nothing is made outside of a constructor: " + line, isConstructor || !line.contains(" new "));
+        }
     }
 
     /** The longest stretch from a method's head to the brace that closes it, by the indents. */
